@@ -1067,7 +1067,6 @@ public final class WindBrides {
         }
 
         int ringOf(int girl) {
-            int reached = 0;
             int latest = 1 << girl;
             for (int size = 1; size <= girls; size++) {
                 int next = 0;
@@ -1077,8 +1076,7 @@ public final class WindBrides {
                 if ((next >> girl & 1) != 0) {
                     return size;
                 }
-                latest = next & ~reached;
-                reached |= next;
+                latest = next;
             }
             return NONE;
         }
@@ -1464,7 +1462,6 @@ public final class WindBrides {
             begin(from, n);
             wanted = set;
             most = -1;
-            bestOnes = 0;
             fewest = LONGEST_PLAN + 1;
             everPromised = 0;
             tryActs(0, 0, 0);

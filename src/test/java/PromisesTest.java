@@ -132,7 +132,8 @@ public final class PromisesTest {
     private static void changeAndRemake() {
         WindBrides x = new WindBrides();
         x.girl(1, 2, 3);
-        due(4, "HOUSE", x.change(0, 1, 7), 2);
+        due(4, "HOUSE", x.change(0, 1, 0), 2);
+        due(4, "HOUSE", x.change(0, 1, 7), 0);
         due(4, "its new one", x.girlOf(0, 1), 7);
         due(4, "DOWRY", x.change(0, 2, 9), 3);
         due(4, "its new one", x.girlOf(0, 2), 9);
@@ -220,6 +221,7 @@ public final class PromisesTest {
                 due(9, "early gain of " + g + " by " + w, x.gain(g, w, 2), at2[w][g]);
             }
         }
+        due(9, "month 0", x.gain(0, 0, 0), 4);
         due(9, "from month 3", x.gain(3, 0, 3), 8);
         due(9, "month 15", x.gain(3, 0, 15), 8);
         due(9, "month 16", x.gain(3, 0, 16), BAD);
@@ -298,6 +300,8 @@ public final class PromisesTest {
         due(14, "zeros", tell(x, "girl if 0009=9 turn;"), 1);
         due(14, "9999", tell(x, "girl if 9999>house turn;"), 1);
         due(14, "in place of all", x.many(1), 1);
+        due(14, "none in place of all", tell(x, "  "), 0);
+        due(14, "none in place of all", x.many(1), 0);
     }
 
     /** What a GIRL (calm, HOUSE 5, DOWRY 3, number 0) in MONTH 1 with FAITH 2 does by a TEXT. */
@@ -317,6 +321,14 @@ public final class PromisesTest {
         due(14, "dowry", does("girl if dowry=3 turn;"), 1);
         due(14, "house", does("girl if house=5 turn;"), 1);
         due(14, "number", does("girl if number=0 turn;"), 1);
+        WindBrides x = new WindBrides();
+        for (int g = 0; g < 6; g++) {
+            x.girl(1, 0, 1);
+        }
+        tell(x, "girl if number=4 turn; girl if number>4 leave;");
+        due(14, "number 3", x.girlOf(3, 5), 0);
+        due(14, "number 4", x.girlOf(4, 5), 1);
+        due(14, "number 5", x.girlOf(5, 5), 2);
         due(14, "less", does("girl if faith<3 turn;"), 1);
         due(14, "not less", does("girl if faith<2 turn;"), 0);
         due(14, "more", does("girl if 3>faith turn;"), 1);
@@ -329,6 +341,11 @@ public final class PromisesTest {
         due(14, "not of brackets", does("girl if not (1=1 and 1=2) turn;"), 1);
         due(14, "ors", does("girl if 1=2 or 1=3 or 1=1 or 1=4 turn;"), 1);
         due(14, "ands", does("girl if 1=1 and 1=1 and 1=2 and 1=1 turn;"), 0);
+        due(14, "what waits ahead of brackets", does("girl if 1=2 and (1=2 or 1=1) turn;"), 0);
+        due(14, "what waits ahead of brackets", does("girl if 1=2 or (1=1 and (1=2 or (1=1 or 1=2) and 1=1)) turn;"), 1);
+        String seven = "girl if 1=2 turn;girl if 1=2 turn;girl if 1=2 turn;girl if 1=2 turn;girl if 1=2 turn;girl if 1=2 turn;girl if 1=2 turn;";
+        due(14, "the eighth", does(seven + "girl if 1=1 leave;"), 2);
+        due(14, "not the eighth", does(seven + "girl if 1=2 leave;"), 0);
         due(14, "mixed", does("girl if 1=2 and 1=1 or 1=1 and 2=2 or 1=3 turn;"), 1);
         due(14, "not not", does("girl if not not 1=1 turn;"), 1);
         due(14, "the first that holds", does("girl if 1=2 turn; calm leave; girl turn;"), 2);
@@ -343,14 +360,18 @@ public final class PromisesTest {
             "girl if 1 turn;", "girl if 1=turn;", "girl if 1=1;", "girl if 12345=1 turn;", "girl if 1=00001 turn;",
             "girl if ((((1=1)))) turn;", "girl if (1=1 turn;", "girl if 1=1) turn;", "girl if 1=1 and turn;", "girl if not turn;",
             "girl wait;girl wait;girl wait;girl wait;girl wait;girl wait;girl wait;girl wait; girl wait;",
-            "Girl turn;", "girl\tturn;", "girl if 1==1 turn;", "girl if month turn;", "girl turn wait;", "girl if 1=1 or or", "girl turn;;"
+            "Girl turn;", "girl\tturn;", "girl if 1==1 turn;", "girl if month turn;", "girl turn wait;", "girl if 1=1 or or", "girl turn;;",
+            "girlz turn;", "birl wait;", "girl if zonth=1 turn;", "girl if numbers=1 turn;", "girl if1 =1 turn; a", "girl if 10 000=1 turn;",
+            ";".repeat(200), "(".repeat(200), "girl if " + "not ".repeat(48), "girl if" + "(((((".repeat(30)
         };
         int[] places = {
             0, 2, 0, 4, 5, 9, 11, 5, 7, 8,
             10, 10, 11, 8, 10,
             11, 13, 11, 16, 12,
             81,
-            0, 4, 10, 14, 10, 15, 10
+            0, 4, 10, 14, 10, 15, 10,
+            0, 0, 8, 8, 18, 11,
+            0, 0, 200, 10
         };
         WindBrides x = new WindBrides();
         tell(x, "girl wait; girl wait;");
@@ -365,7 +386,10 @@ public final class PromisesTest {
         WindBrides x = onePair();
         x.girl(2, 4, 1);
         x.promise(1, 0);
+        x.change(0, 2, 3);
         due(15, "one girl a month", x.month(), 5);
+        due(15, "FAITH becomes DOWRY when it courts her", x.girlOf(0, 4), 3);
+        x.change(0, 2, 2);
         due(15, "the other one is worn out", x.girlOf(1, 3), 6);
         due(15, "her FAITH", x.girlOf(1, 4), 1);
         x.month();
@@ -465,13 +489,14 @@ public final class PromisesTest {
         due(19, "no girl", x.windFor(2), BAD);
         due(19, "girl -1", x.windFor(-1), BAD);
         WindBrides y = new WindBrides();
+        y.girl(2, 4, 9);
         y.girl(2, 0, 9);
-        y.girl(2, 0, 1);
-        y.wind(0, 1, 0, 0);
-        y.wind(4, 1, 0, 15);
+        y.wind(0, 5, 0, 15);
+        y.promise(1, 0);
+        due(19, "she had best have none", y.windFor(0), 6);
         y.promise(0, 0);
-        tell(y, "girl if number=0 and faith<dowry turn;");
-        due(19, "none is best only at the end", y.windFor(1), 0);
+        due(19, "so had she who has it", y.windFor(0), 6);
+        due(19, "nothing changed", y.girlOf(0, 3), 0);
         WindBrides z = new WindBrides();
         z.girl(2, 0, 2);
         z.wind(0, 5, 3, 4);
@@ -480,6 +505,12 @@ public final class PromisesTest {
         due(20, "nothing changed", z.girlOf(0, 2) * 10 + z.girlOf(0, 4), 22);
         z.promise(0, -1);
         due(20, "all are alike", z.dowryFor(0), 1);
+        z.wind(0, 5, 8, 8);
+        z.promise(0, 1);
+        due(20, "FAITH till MONTH 8", z.dowryFor(0), 9);
+        z.promise(0, -1);
+        tell(z, "girl if dowry=7 and month=3 turn;");
+        due(20, "DOWRY itself counts, not only FAITH", z.dowryFor(0), 7);
         due(20, "no girl", z.dowryFor(1), BAD);
         due(20, "girl -1", z.dowryFor(-1), BAD);
     }
@@ -670,6 +701,9 @@ public final class PromisesTest {
         x.promise(0, -1);
         due(30, "the other one hides her", x.game(2), 5);
         due(31, "nobody is as good", x.play(2), 0);
+        x.promise(0, 0);
+        due(31, "as it is now", x.play(2), 1);
+        x.promise(0, -1);
         x.ends(1);
         due(30, "but one month", x.game(4), 5);
         for (int n : new int[] {0, 5, -1}) {
@@ -796,6 +830,13 @@ public final class PromisesTest {
 
     private static void sheets() {
         WindBrides x = new WindBrides();
+        for (int sheet = 0; sheet < 4; sheet++) {
+            due(43, "each is apart", x.sheet(sheet, 2, 40), 1);
+            due(44, "each is apart", x.write(sheet, 0, sheet + 1) + x.write(sheet, 39, -sheet), 2);
+        }
+        for (int sheet = 0; sheet < 4; sheet++) {
+            due(45, "each is apart", x.item(sheet, 2, 0) * 10 + x.item(sheet, 2, 39), 9 * sheet + 10);
+        }
         due(43, "sheet 4", x.sheet(4, 0, 1), BAD);
         due(43, "sheet -1", x.sheet(-1, 0, 1), BAD);
         due(43, "sort 5", x.sheet(0, 5, 1), BAD);
@@ -825,7 +866,9 @@ public final class PromisesTest {
         }
         due(44, "write", x.write(1, 5, 256), 1);
         due(45, "256 is not 0", x.item(1, 4, 5), 1);
+        x.write(1, 0, 1);
         due(43, "a new row", x.sheet(1, 4, 6), 1);
+        due(43, "is all 0", x.item(1, 4, 0), 0);
         due(43, "is all 0", x.item(1, 4, 5), 0);
         due(45, "sort 5", x.item(1, 5, 0), BAD);
         due(45, "sort -1", x.item(1, -1, 0), BAD);
@@ -1047,7 +1090,7 @@ public final class PromisesTest {
         x.act(0, 0, 1);
         x.month();
         x.month();
-        tell(x, "girl wait; girl turn;");
+        tell(x, "girl if month=2 wait; girl if house>6 and dowry<9 turn;");
         x.forget();
         x.report(2, 2, 2, 2);
         x.report(3, 3, 3, 3);
