@@ -42,6 +42,12 @@ final class GirlsEdges implements Answers {
         x.due(1, "seed", 1).due(0, "state", 0).due(NOTHING, "taken", 0, 0).due(NOTHING, "item", 0, 0, 0).due(NONE, "again");
     }
 
+    static void promise01The512thCallHolds() {
+        new Run().times(511, "seed", 5).due(5, "seed", 0);
+        Run x = Run.full();
+        x.times(511 - x.size(), "month").due(11, "many", 6);
+    }
+
     static void promise01TheAnswersThatHaveNames() {
         named("BAD", WindBrides.BAD, -1);
         named("FULL", WindBrides.FULL, -2);

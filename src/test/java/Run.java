@@ -51,6 +51,10 @@ final class Run implements Answers {
         }
     }
 
+    int size() {
+        return calls.size();
+    }
+
     /** The answer that is due. */
     Run due(int want, String name, long... args) {
         int got = call(name, args);
