@@ -105,6 +105,9 @@ public final class LanguageTest {
             if (m.getParameterCount() > 7) {
                 complain("parameters of " + m);
             }
+            if (Modifier.isPrivate(m.getModifiers()) && Arrays.asList(FACE.split(" ")).contains(m.getName())) {
+                complain("a name of the face for " + m);
+            }
         }
     }
 
